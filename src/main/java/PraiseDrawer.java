@@ -796,6 +796,7 @@ public final class PraiseDrawer {
 
     /** What hands say of two pupils, and the order that goes against the fewest of it. */
     private static final class Sayings {
+        private static final int MORE_THAN_ALL = MOST_SAID + 1;
         private final int[] hands = new int[MOST_SAID];
         private final int[] betters = new int[MOST_SAID];
         private final int[] thans = new int[MOST_SAID];
@@ -824,7 +825,7 @@ public final class PraiseDrawer {
             takeAhead(pupils);
             fewest[0] = 0;
             for (int set = 1; set < 1 << pupils; set++) {
-                fewest[set] = Integer.MAX_VALUE;
+                fewest[set] = MORE_THAN_ALL;
                 for (int first = 0; first < pupils; first++) {
                     boolean isTooEarly = first == late && (set >> early & 1) == 1;
                     if ((set >> first & 1) == 1 && !isTooEarly) {

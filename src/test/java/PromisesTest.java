@@ -18,6 +18,7 @@ public final class PromisesTest {
         p10Means();
         p11Odds();
         p11OddsOfManyLimbs();
+        p11OddsOfGreatFactors();
         p12Likeliest();
         p13Says();
         p14Year();
@@ -288,6 +289,18 @@ public final class PromisesTest {
         limbs(x, 1, whole.divide(common));
         due.holds("11 many limbs", x.sign(1) >= 7 && x.sign(2) >= 7);
         due.due("12 of many limbs", x.likeliest(4), 3);
+    }
+
+    /** One word alone means nothing: 233 by 233 cancels, and all gifts are alike. */
+    private static void p11OddsOfGreatFactors() {
+        PraiseDrawer x = withWords(0);
+        x.hand(NONE);
+        x.pupil(1, 0);
+        x.pupil(1, NONE);
+        for (int i = 0; i < 29; i++) write(x, 0, 0, 0, 0, 0, 0, 0, 0, 0, 0, 0);
+        write(x, 0, 1, 0, 0, 0);
+        due.due("11 of great factors", x.odds(1, 0), 1);
+        due.fraction("11 of great factors", x, 1, 4);
     }
 
     private static void limbs(PraiseDrawer x, int which, java.math.BigInteger number) {
