@@ -45,19 +45,6 @@ public final class PromisesTest {
         due.end();
     }
 
-    /** Words of the ranks told, of anybody. */
-    private static PraiseDrawer withWords(int... ranks) {
-        PraiseDrawer x = new PraiseDrawer();
-        for (int rank : ranks) x.word(rank, 0);
-        return x;
-    }
-
-    private static int write(PraiseDrawer x, int hand, int pupil, int year, int... words) {
-        int letter = x.letter(hand, pupil, year);
-        for (int word : words) x.write(letter, word);
-        return letter;
-    }
-
     private static void p1NewObject() {
         due.due("NONE", PraiseDrawer.NONE, -1);
         due.due("BAD", PraiseDrawer.BAD, -2);
@@ -157,19 +144,19 @@ public final class PromisesTest {
     }
 
     private static void p7Write() {
-        PraiseDrawer x = withWords(1);
+        PraiseDrawer x = Drawers.withWords(1);
         due.due("7 no letter", x.write(0, 0), BAD);
         x.hand(NONE);
         x.pupil(1, 0);
         x.letter(0, 0, 0);
         x.letter(0, 0, 0);
-        for (int i = 1; i <= 8; i++) due.due("7 write(0, 0)", x.write(0, 0), i);
+        for (int i = 1; i <= 8; i++) due.due("7 Drawers.write(0, 0)", x.write(0, 0), i);
         due.due("7 a ninth", x.write(0, 0), FULL);
         due.due("7 a bad ninth", x.write(0, 1), BAD);
         due.due("7 of the other", x.write(1, 0), 1);
-        due.due("7 write(1, NONE)", x.write(1, NONE), BAD);
-        due.due("7 write(2, 0)", x.write(2, 0), BAD);
-        due.due("7 write(NONE, 0)", x.write(NONE, 0), BAD);
+        due.due("7 Drawers.write(1, NONE)", x.write(1, NONE), BAD);
+        due.due("7 Drawers.write(2, 0)", x.write(2, 0), BAD);
+        due.due("7 Drawers.write(NONE, 0)", x.write(NONE, 0), BAD);
     }
 
     private static void p8Weight() {
@@ -185,16 +172,16 @@ public final class PromisesTest {
 
     /** Hand 2's kin is 1, whose kin is 0; each has written of pupil 0 (gift 1). */
     private static PraiseDrawer threeHands() {
-        PraiseDrawer x = withWords(3, 6);
+        PraiseDrawer x = Drawers.withWords(3, 6);
         x.hand(NONE);
         x.hand(0);
         x.hand(1);
         x.pupil(1, 1);
         x.pupil(2, NONE);
-        write(x, 0, 0, 1, 0, 0, 0);
-        write(x, 1, 0, 2, 0, 1, 0);
-        write(x, 2, 0, 3, 1, 0);
-        write(x, 2, 1, 3, 1, 1, 1);
+        Drawers.write(x, 0, 0, 1, 0, 0, 0);
+        Drawers.write(x, 1, 0, 2, 0, 1, 0);
+        Drawers.write(x, 2, 0, 3, 1, 0);
+        Drawers.write(x, 2, 1, 3, 1, 1, 1);
         return x;
     }
 
@@ -250,8 +237,8 @@ public final class PromisesTest {
         due.due("11 odds(0, 4)", x.odds(0, 4), BAD);
         due.due("11 odds(0, NONE)", x.odds(0, NONE), BAD);
         due.fraction("11 unchanged", x, 3, 4);
-        write(x, 0, 2, 5, 0, 0, 0, 0, 0, 0);
-        int last = write(x, 0, 2, 5, 0, 0, 0, 0, 0, 0);
+        Drawers.write(x, 0, 2, 5, 0, 0, 0, 0, 0, 0);
+        int last = Drawers.write(x, 0, 2, 5, 0, 0, 0, 0, 0, 0);
         due.due("11 with 12 words", x.odds(2, 0), 1);
         x.write(last, 1);
         due.due("11 with 13 words", x.odds(2, 0), NO);
@@ -260,7 +247,7 @@ public final class PromisesTest {
 
     /** Word 0 alone, 16, 22, 30 and 34 times for the four gifts; then twelve times of a pupil of no known gift. */
     private static void p11OddsOfManyLimbs() {
-        PraiseDrawer x = withWords(0, 1, 2, 3, 4, 5, 6);
+        PraiseDrawer x = Drawers.withWords(0, 1, 2, 3, 4, 5, 6);
         x.hand(NONE);
         int[] uses = {16, 22, 30, 34};
         java.math.BigInteger[] shares = new java.math.BigInteger[4];
@@ -273,8 +260,8 @@ public final class PromisesTest {
             }
         }
         x.pupil(1, NONE);
-        write(x, 0, 4, 1, 0, 0, 0, 0, 0, 0);
-        write(x, 0, 4, 2, 0, 0, 0, 0, 0, 0);
+        Drawers.write(x, 0, 4, 1, 0, 0, 0, 0, 0, 0);
+        Drawers.write(x, 0, 4, 2, 0, 0, 0, 0, 0, 0);
         java.math.BigInteger whole = java.math.BigInteger.ZERO;
         java.math.BigInteger below = java.math.BigInteger.ONE;
         for (int gift = 0; gift < 4; gift++) below = below.multiply(java.math.BigInteger.valueOf(7 + uses[gift]).pow(12));
@@ -293,12 +280,12 @@ public final class PromisesTest {
 
     /** One word alone means nothing: 233 by 233 cancels, and all gifts are alike. */
     private static void p11OddsOfGreatFactors() {
-        PraiseDrawer x = withWords(0);
+        PraiseDrawer x = Drawers.withWords(0);
         x.hand(NONE);
         x.pupil(1, 0);
         x.pupil(1, NONE);
-        for (int i = 0; i < 29; i++) write(x, 0, 0, 0, 0, 0, 0, 0, 0, 0, 0, 0);
-        write(x, 0, 1, 0, 0, 0);
+        for (int i = 0; i < 29; i++) Drawers.write(x, 0, 0, 0, 0, 0, 0, 0, 0, 0, 0, 0);
+        Drawers.write(x, 0, 1, 0, 0, 0);
         due.due("11 of great factors", x.odds(1, 0), 1);
         due.fraction("11 of great factors", x, 1, 4);
     }
@@ -321,12 +308,12 @@ public final class PromisesTest {
         // Without his own letters nothing is known to anybody.
         due.due("12 as if his own were not known", x.likeliest(0), 0);
         x.pupil(1, NONE);
-        write(x, 0, 2, 9, 0);
+        Drawers.write(x, 0, 2, 9, 0);
         due.due("12 word 0 is for gift 1", x.likeliest(2), 1);
         due.due("12 likeliest(3)", x.likeliest(3), BAD);
         due.due("12 likeliest(NONE)", x.likeliest(NONE), BAD);
-        write(x, 0, 2, 9, 0, 0, 0, 0, 0, 0, 0, 0);
-        int last = write(x, 0, 2, 9, 0, 0, 0);
+        Drawers.write(x, 0, 2, 9, 0, 0, 0, 0, 0, 0, 0, 0);
+        int last = Drawers.write(x, 0, 2, 9, 0, 0, 0);
         due.due("12 with 12 words", x.likeliest(2), 1);
         x.write(last, 0);
         due.due("12 with 13 words", x.likeliest(2), NO);
@@ -345,13 +332,13 @@ public final class PromisesTest {
         due.fraction("13 says nothing", x, 0, 1);
         x.pupil(1, 0);
         x.pupil(1, 3);
-        write(x, 0, 0, 0, 0, 0);
-        write(x, 0, 1, 0, 1);
+        Drawers.write(x, 0, 0, 0, 0, 0);
+        Drawers.write(x, 0, 1, 0, 1);
         // Word 0: 3/4, 1/2, 1/2, 1/3. Word 1: 1/4, 1/2, 1/2, 2/3.
         due.due("13 says(0)", x.says(0), 1);
         due.fraction("13 says(0)", x, 5, 12);
         x.hand(0);
-        write(x, 1, 0, 0, 1, 1, 1);
+        Drawers.write(x, 1, 0, 0, 1, 1, 1);
         // Hand 1 with his kin: word 0: 3/7, 1/2, 1/2, 1/3; word 1: 4/7, 1/2, 1/2, 2/3.
         due.due("13 says(1)", x.says(1), 1);
         due.fraction("13 says(1)", x, 1, 6);
@@ -361,14 +348,14 @@ public final class PromisesTest {
     }
 
     private static void p14Year() {
-        PraiseDrawer x = withWords(0, 4, 9);
+        PraiseDrawer x = Drawers.withWords(0, 4, 9);
         x.hand(NONE);
         x.hand(0);
         x.pupil(1, NONE);
-        write(x, 0, 0, 0, 1, 2);
-        write(x, 1, 0, 0, 1, 1, 0);
-        write(x, 0, 0, 39, 0, 0);
-        write(x, 0, 0, 5);
+        Drawers.write(x, 0, 0, 0, 1, 2);
+        Drawers.write(x, 1, 0, 0, 1, 1, 0);
+        Drawers.write(x, 0, 0, 39, 0, 0);
+        Drawers.write(x, 0, 0, 5);
         due.due("14 year(0, NONE)", x.year(0, NONE), 1);
         due.fraction("14 year(0, NONE)", x, 21, 5);
         due.due("14 year(0, 0)", x.year(0, 0), 1);
@@ -387,13 +374,13 @@ public final class PromisesTest {
     }
 
     private static void p15AsIn() {
-        PraiseDrawer x = withWords(2, 4, 7, 9);
+        PraiseDrawer x = Drawers.withWords(2, 4, 7, 9);
         x.hand(NONE);
         x.hand(NONE);
         x.pupil(1, NONE);
-        write(x, 0, 0, 1, 0, 1);
-        write(x, 1, 0, 1, 2);
-        write(x, 0, 0, 2, 1, 2, 2, 3, 3, 3);
+        Drawers.write(x, 0, 0, 1, 0, 1);
+        Drawers.write(x, 1, 0, 1, 2);
+        Drawers.write(x, 0, 0, 2, 1, 2, 2, 3, 3, 3);
         due.due("15 asIn(1, 1, 2)", x.asIn(1, 1, 2), 0);
         due.due("15 asIn(2, 1, 2)", x.asIn(2, 1, 2), 7);
         due.due("15 asIn(4, 1, 2)", x.asIn(4, 1, 2), 9);
@@ -412,20 +399,20 @@ public final class PromisesTest {
 
     /** Of gift 1: three letters of a he (two with word 0), two of a she (one with it); others of no matter. */
     private static PraiseDrawer fiveLetters() {
-        PraiseDrawer x = withWords(1, 2);
+        PraiseDrawer x = Drawers.withWords(1, 2);
         x.hand(NONE);
         x.hand(NONE);
         x.pupil(1, 1);
         x.pupil(2, 1);
         x.pupil(1, NONE);
         x.pupil(2, 2);
-        write(x, 0, 0, 0, 0, 0);
-        write(x, 1, 0, 1, 1, 0);
-        write(x, 0, 0, 0);
-        write(x, 0, 1, 0, 1);
-        write(x, 0, 1, 3, 0);
-        write(x, 0, 2, 0, 0);
-        write(x, 0, 3, 0, 0);
+        Drawers.write(x, 0, 0, 0, 0, 0);
+        Drawers.write(x, 1, 0, 1, 1, 0);
+        Drawers.write(x, 0, 0, 0);
+        Drawers.write(x, 0, 1, 0, 1);
+        Drawers.write(x, 0, 1, 3, 0);
+        Drawers.write(x, 0, 2, 0, 0);
+        Drawers.write(x, 0, 3, 0, 0);
         return x;
     }
 
@@ -458,9 +445,9 @@ public final class PromisesTest {
         // Four of a he, three with word 0; one of a she with it: choose 4 of 5, 3 of a he at least: all.
         due.due("17 chance(0, 1, 0)", x.chance(0, 1, 0), 1);
         due.fraction("17 all of them", x, 1, 1);
-        write(x, 0, 3, 0);
-        write(x, 0, 3, 0);
-        write(x, 0, 3, 0, 1);
+        Drawers.write(x, 0, 3, 0);
+        Drawers.write(x, 0, 3, 0);
+        Drawers.write(x, 0, 3, 0, 1);
         x.became(0, NONE);
         // One of a he with word 0; four of a she, one with it: 2 of 5, the one of a he is in 4 of 10.
         due.due("17 chance(0, 1, 0)", x.chance(0, 1, 0), 1);
@@ -477,7 +464,7 @@ public final class PromisesTest {
     }
 
     private static void p17ChanceOfThirty() {
-        PraiseDrawer x = withWords(1);
+        PraiseDrawer x = Drawers.withWords(1);
         x.hand(NONE);
         x.pupil(1, 0);
         x.pupil(2, 0);
@@ -490,49 +477,49 @@ public final class PromisesTest {
     }
 
     private static void p18Like() {
-        PraiseDrawer x = withWords(0, 1, 2, 3);
+        PraiseDrawer x = Drawers.withWords(0, 1, 2, 3);
         x.hand(NONE);
         x.pupil(1, NONE);
-        int a = write(x, 0, 0, 0, 0, 1, 2, 3, 0, 1);
-        int b = write(x, 0, 0, 0, 1, 2, 0, 3, 0, 0, 1);
-        int empty = write(x, 0, 0, 0);
+        int a = Drawers.write(x, 0, 0, 0, 0, 1, 2, 3, 0, 1);
+        int b = Drawers.write(x, 0, 0, 0, 1, 2, 0, 3, 0, 0, 1);
+        int empty = Drawers.write(x, 0, 0, 0);
         due.due("18 run", x.like(a, b, 0), 2);
         due.due("18 like", x.like(a, b, 1), 5);
         due.due("18 run the other way", x.like(b, a, 0), 2);
         due.due("18 like the other way", x.like(b, a, 1), 5);
         due.due("18 no words", x.like(a, empty, 0), 0);
         due.due("18 no words", x.like(a, empty, 1), 0);
-        int c = write(x, 0, 0, 0, 3, 1, 2, 3);
+        int c = Drawers.write(x, 0, 0, 0, 3, 1, 2, 3);
         due.due("18 run of three", x.like(a, c, 0), 3);
         due.due("18 alike", x.like(a, a, 0), BAD);
         due.due("18 like(4, 0, 0)", x.like(4, 0, 0), BAD);
         due.due("18 like(0, NONE, 0)", x.like(0, NONE, 0), BAD);
         due.due("18 like(0, 1, 2)", x.like(0, 1, 2), BAD);
         due.due("18 like(0, 1, -1)", x.like(0, 1, -1), BAD);
-        int e = write(x, 0, 0, 0, 0, 1, 2, 3, 0, 1, 2, 3);
-        int f = write(x, 0, 0, 0, 0, 1, 2, 3, 0, 1, 2, 3);
+        int e = Drawers.write(x, 0, 0, 0, 0, 1, 2, 3, 0, 1, 2, 3);
+        int f = Drawers.write(x, 0, 0, 0, 0, 1, 2, 3, 0, 1, 2, 3);
         due.due("18 all eight", x.like(e, f, 0), 8);
         due.due("18 all eight", x.like(e, f, 1), 8);
     }
 
     private static void p19Left() {
-        PraiseDrawer x = withWords(0, 1, 2, 3);
+        PraiseDrawer x = Drawers.withWords(0, 1, 2, 3);
         x.hand(NONE);
         x.hand(NONE);
         x.pupil(1, NONE);
         x.pupil(2, NONE);
-        int told = write(x, 0, 0, 9, 0, 1, 2, 3);
-        write(x, 1, 0, 1, 0, 1, 2, 3);
-        write(x, 0, 1, 9, 0, 1, 2, 3);
-        write(x, 0, 1, 10, 0, 1, 2, 3);
+        int told = Drawers.write(x, 0, 0, 9, 0, 1, 2, 3);
+        Drawers.write(x, 1, 0, 1, 0, 1, 2, 3);
+        Drawers.write(x, 0, 1, 9, 0, 1, 2, 3);
+        Drawers.write(x, 0, 1, 10, 0, 1, 2, 3);
         due.due("19 another hand, the same year, later", x.left(told, 1), NONE);
-        int two = write(x, 0, 1, 8, 1, 2);
+        int two = Drawers.write(x, 0, 1, 8, 1, 2);
         due.due("19 left of 1", x.left(told, 1), two);
         due.due("19 left of 2", x.left(told, 2), two);
         due.due("19 left of 3", x.left(told, 3), NONE);
-        write(x, 0, 0, 0, 2, 3, 1);
+        Drawers.write(x, 0, 0, 0, 2, 3, 1);
         due.due("19 of like ones the least", x.left(told, 1), two);
-        int three = write(x, 0, 0, 2, 0, 1, 2);
+        int three = Drawers.write(x, 0, 0, 2, 0, 1, 2);
         due.due("19 the longest", x.left(told, 1), three);
         due.due("19 left of 8", x.left(told, 8), NONE);
         due.due("19 left(-1, 1)", x.left(-1, 1), BAD);
@@ -549,9 +536,9 @@ public final class PromisesTest {
         x.hand(NONE);
         x.pupil(1, NONE);
         x.pupil(2, NONE);
-        int he = write(x, 0, 0, 0, 0, 1, 2, 2);
-        int she = write(x, 0, 1, 0, 2, 0, 0, 1, 2);
-        int neither = write(x, 0, 1, 0, 0, 2, 0);
+        int he = Drawers.write(x, 0, 0, 0, 0, 1, 2, 2);
+        int she = Drawers.write(x, 0, 1, 0, 2, 0, 0, 1, 2);
+        int neither = Drawers.write(x, 0, 1, 0, 0, 2, 0);
         due.due("20 of a he", x.slip(he), 2);
         due.due("20 of a she", x.slip(she), 3);
         due.due("20 none", x.slip(neither), NONE);
@@ -560,15 +547,8 @@ public final class PromisesTest {
         due.due("20 slip(NONE)", x.slip(NONE), BAD);
     }
 
-    private static PraiseDrawer withPupils(int pupils) {
-        PraiseDrawer x = new PraiseDrawer();
-        x.hand(NONE);
-        for (int i = 0; i < pupils; i++) x.pupil(1, NONE);
-        return x;
-    }
-
     private static void p21Said() {
-        PraiseDrawer x = withPupils(2);
+        PraiseDrawer x = Drawers.withPupils(2);
         due.due("21 alike", x.said(0, 1, 1), BAD);
         due.due("21 said(1, 0, 1)", x.said(1, 0, 1), BAD);
         due.due("21 said(NONE, 0, 1)", x.said(NONE, 0, 1), BAD);
@@ -589,7 +569,7 @@ public final class PromisesTest {
     }
 
     private static void p22Order() {
-        PraiseDrawer x = withPupils(4);
+        PraiseDrawer x = Drawers.withPupils(4);
         due(x, "22 nothing said", 0, 0, 1, 2, 3);
         x.said(0, 3, 0);
         due(x, "22 the first as a row", 0, 1, 2, 3, 0);
@@ -604,7 +584,7 @@ public final class PromisesTest {
         due.due("22 order(4)", x.order(4), -10);
         due.due("22 order(-2)", x.order(-2), -10);
         due.due("22 order(MOST)", x.order(MOST), -10);
-        PraiseDrawer y = withPupils(8);
+        PraiseDrawer y = Drawers.withPupils(8);
         for (int i = 7; i > 0; i--) y.said(0, i, i - 1);
         due(y, "22 eight backwards", 0, 7, 6, 5, 4, 3, 2, 1, 0);
         y.said(0, 0, 7);
@@ -612,7 +592,7 @@ public final class PromisesTest {
     }
 
     private static void p23Sure() {
-        PraiseDrawer x = withPupils(4);
+        PraiseDrawer x = Drawers.withPupils(4);
         due.due("23 nothing said", x.sure(0, 1), 0);
         x.said(0, 3, 0);
         x.said(0, 0, 2);
@@ -829,7 +809,7 @@ public final class PromisesTest {
     }
 
     private static void p32Count() {
-        PraiseDrawer x = withWords(1, 2);
+        PraiseDrawer x = Drawers.withWords(1, 2);
         x.hand(NONE);
         for (int i = 0; i < 3; i++) x.pupil(1, NONE);
         for (int i = 0; i < 4; i++) x.letter(0, 0, 0);
@@ -857,8 +837,8 @@ public final class PromisesTest {
         x.hand(0);
         x.pupil(2, 3);
         x.pupil(1, NONE);
-        write(x, 1, 0, 12, 1, 0, 1);
-        write(x, 0, 1, 5);
+        Drawers.write(x, 1, 0, 12, 1, 0, 1);
+        Drawers.write(x, 0, 1, 5);
         x.weight(1, 8);
         x.said(1, 0, 1);
         x.said(0, 0, 1);
