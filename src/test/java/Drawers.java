@@ -41,7 +41,7 @@ final class Drawers {
         return x;
     }
 
-    /** As much of everything as goes in, in 345 calls. */
+    /** As much of everything as goes in, in 339 calls. */
     static PraiseDrawer full() {
         PraiseDrawer x = new PraiseDrawer();
         for (int i = 0; i < 8; i++) x.word(i, i % 3);

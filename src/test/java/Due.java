@@ -1,3 +1,5 @@
+import java.util.function.IntSupplier;
+
 /** Counts the answers that are due and those that are not, for the tests of one class. */
 final class Due {
     private final String test;
@@ -19,6 +21,19 @@ final class Due {
 
     void holds(String what, boolean isSo) {
         due(what, isSo ? 1 : 0, 1);
+    }
+
+    /** A call that is refused: its answer, and that it changes nothing. */
+    void refused(String call, PraiseDrawer x, IntSupplier answer, int want) {
+        long before = x.digest();
+        due(call, answer.getAsInt(), want);
+        due(call + " changes nothing", x.digest(), before);
+    }
+
+    /** A call that answers 1 with THE FRACTION. */
+    void fraction(String call, PraiseDrawer x, int answer, long above, long below) {
+        due(call, answer, 1);
+        fraction(call, x, above, below);
     }
 
     /** THE FRACTION, where each side is below the base. */
