@@ -4,6 +4,8 @@ public final class AgainstPlainDrawer {
     private static final int[] ODD = {-1, -2, 64, 63, 1 << 30, Integer.MAX_VALUE, Integer.MIN_VALUE, 10, 40, 101};
 
     private long seed;
+    /** Most letters are of this year or of the three behind it. */
+    private int years;
     private PraiseDrawer x;
     private PlainDrawer y;
 
@@ -36,8 +38,13 @@ public final class AgainstPlainDrawer {
         int words = 1 + below(9);
         int pupils = 1 + below(run % 10 == 0 ? 9 : 6);
         int first = run % 3 == 0 ? 0 : 30 + below(60);
+        years = run % 2 == 0 ? 0 : 36;
+        if (run % 15 == 7) {
+            fill();
+        } else if (first > 0) {
+            build(words, pupils, first);
+        }
         for (int call = 0; call < 512; call++) {
-            if (call == 0 && first > 0) build(words, pupils, first);
             int kind = below(33);
             if (below(2) == 0) kind = 5 + below(2);
             if (kind == 2 && below(4) > 0) kind = 10;
@@ -53,6 +60,22 @@ public final class AgainstPlainDrawer {
         for (int i = 0; i < letters; i++) one(-1, i % 3 == 0 ? 4 : 5);
     }
 
+    /** As much of everything as goes in; some calls on the way are refused. */
+    private void fill() {
+        int[] kinds = {0, 1, 2, 4, 8, 17};
+        int[] most = {8, 6, 8, 30, 40, 6};
+        for (int i = 0; i < kinds.length; i++) {
+            for (int call = 0; call < 200 && x.count(i) < most[i]; call++) one(-1, kinds[i]);
+            due(-1, "full of " + i, x.count(i), most[i]);
+        }
+        for (int i = 0; i < 150; i++) one(-1, 5);
+        for (int i = 0; i < 6; i++) one(-1, 13);
+    }
+
+    private int someYear() {
+        return below(4) == 0 ? any(40) : years + any(4);
+    }
+
     private void due(int run, String call, long got, long want) {
         DUE.due("run " + run + " " + call, got, want);
     }
@@ -65,7 +88,7 @@ public final class AgainstPlainDrawer {
             case 1: a = orNone(h); due(run, "hand " + a, x.hand(a), y.hand(a)); break;
             case 2: a = 1 + any(2); b = orNone(4); due(run, "pupil " + a + " " + b, x.pupil(a, b), y.pupil(a, b)); break;
             case 3: a = any(p); b = orNone(4); due(run, "became " + a + " " + b, x.became(a, b), y.became(a, b)); break;
-            case 4: a = any(h); b = any(p); c = any(below(4) == 0 ? 40 : 4);
+            case 4: a = any(h); b = any(p); c = someYear();
                 due(run, "letter " + a + " " + b + " " + c, x.letter(a, b, c), y.letter(a, b, c)); break;
             case 5: a = any(l); b = any(w); due(run, "write " + a + " " + b, x.write(a, b), y.write(a, b)); break;
             case 6: ask(run, below(16), w, h, p, l); break;
@@ -118,9 +141,9 @@ public final class AgainstPlainDrawer {
             case 2: case 13: case 14: a = any(p); b = any(4); call = "odds " + a + " " + b;
                 due(run, call, x.odds(a, b), y.odds(a, b)); fraction(run, call); break;
             case 3: case 15: a = any(p); call = "likeliest " + a; due(run, call, x.likeliest(a), y.likeliest(a)); break;
-            case 4: a = any(below(3) == 0 ? 40 : 4); b = orNone(h); call = "year " + a + " " + b;
+            case 4: a = someYear(); b = orNone(h); call = "year " + a + " " + b;
                 due(run, call, x.year(a, b), y.year(a, b)); fraction(run, call); break;
-            case 5: a = any(10); b = any(4); c = any(4); call = "asIn " + a + " " + b + " " + c;
+            case 5: a = any(10); b = someYear(); c = someYear(); call = "asIn " + a + " " + b + " " + c;
                 due(run, call, x.asIn(a, b, c), y.asIn(a, b, c)); break;
             case 6: a = any(w); b = any(4); c = any(4); call = "about " + a + " " + b + " " + c;
                 due(run, call, x.about(a, b, c), y.about(a, b, c)); break;

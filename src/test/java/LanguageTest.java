@@ -34,7 +34,7 @@ public final class LanguageTest {
 
     public static void main(String[] args) throws Exception {
         face();
-        String text = Files.readString(Path.of(args[0]));
+        String text = Files.readString(Path.of("src/main/java/PraiseDrawer.java"));
         String code = text.replaceAll("(?s)/\\*.*?\\*/", "").replaceAll("//[^\\n]*", "");
         for (String outlawed : OUTLAWED) {
             DUE.holds("nothing of " + outlawed, !Pattern.compile(outlawed).matcher(code).find());

@@ -47,6 +47,7 @@ public final class OrdersEdgesTest {
         formOfJustEnoughMinutes();
         formOfAllMinutes();
         formOfLikeOnes();
+        formOfLeastBitsNotFewest();
         formByWeights();
         due.end();
     }
@@ -131,7 +132,9 @@ public final class OrdersEdgesTest {
         PraiseDrawer x = Drawers.withPupils(2);
         for (int i = 0; i < 19; i++) {
             x.said(0, 0, 1);
+            row("one more said either way", x, i, 0, 1);
             x.said(0, 1, 0);
+            row("as much said either way", x, i + 1, 0, 1);
         }
         x.said(0, 1, 0);
         row("19 against 20", x, 19, 1, 0);
@@ -385,6 +388,7 @@ public final class OrdersEdgesTest {
         bothBounds(9999, 1, 1, 1, 9999, 1, 1);
         bothBounds(9999, 1, 0, 0, 1, 9998, 9999);
         bothBounds(9999, 9999, 9999, 1, 1, 1, 1);
+        bothBounds(9998, 9997, 1, 1, 9998, 1, 4999);
         PraiseDrawer x = new PraiseDrawer();
         due.refused("of 10000", x, () -> x.bounds(10000, 0, 0, 0), BAD);
         due.refused("of the greatest number", x, () -> x.bounds(Integer.MAX_VALUE, 0, 0, 0), BAD);
@@ -570,6 +574,25 @@ public final class OrdersEdgesTest {
         x.question(17, 100, 100, 0, 50);
         x.question(16, 100, 0, 0, 50);
         due.due("of fewer minutes, or of the least bits", x.form(17), 10);
+    }
+
+    // "of like ones those of fewer minutes, then the least bits": not those of the fewest questions.
+    private static void formOfLeastBitsNotFewest() {
+        for (int minutes = 1; minutes <= 3; minutes++) {
+            PraiseDrawer x = new PraiseDrawer();
+            x.question(1, 50, 0, 0, 0);
+            x.question(1, 0, 50, 0, 0);
+            x.question(minutes, 100, 0, 0, 0);
+            // One of the first two: 150 of 400; both: 5000, 5000 and 10000 of 40000; the third: 200 of 400.
+            due.fraction("one of two", x, x.tells(1), 3, 8);
+            due.fraction("both", x, x.tells(3), 1, 2);
+            due.fraction("the third", x, x.tells(4), 1, 2);
+            // The second and the third: 5000, 10000 and 10000 of 40000.
+            due.fraction("the second and the third", x, x.tells(6), 5, 8);
+            due.due("in two minutes, the third takes " + minutes, x.form(2), minutes == 1 ? 6 : 3);
+            due.due("in three minutes, the third takes " + minutes, x.form(3), minutes == 3 ? 3 : 6);
+            due.due("in one minute", x.form(1), minutes == 1 ? 4 : 1);
+        }
     }
 
     // "GIFTS by WEIGHTS": a question that tells something may not be worth its minutes.

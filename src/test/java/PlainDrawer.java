@@ -328,8 +328,10 @@ final class PlainDrawer {
 
     private void rows(List<Integer> row) {
         if (row.size() == pupils.size()) {
+            int[] places = new int[row.size()];
+            for (int place = 0; place < row.size(); place++) places[row.get(place)] = place;
             int wrong = 0;
-            for (int[] s : said) if (row.indexOf(s[1]) > row.indexOf(s[2])) wrong++;
+            for (int[] s : said) if (places[s[1]] > places[s[2]]) wrong++;
             if (wrong < against) {
                 against = wrong;
                 bestRows.clear();

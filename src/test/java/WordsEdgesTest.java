@@ -265,7 +265,11 @@ public final class WordsEdgesTest {
         x.write(0, 0);
         due.due("twice in one letter", x.uses(0, 0, 3), 2);
         for (int i = 2; i < 8; i++) x.write(0, 0);
-        for (int i = 1; i < 30; i++) Drawers.write(x, 0, 0, 0, 0, 0, 0, 0, 0, 0, 0, 0);
+        for (int i = 8; i < 240; i++) {
+            if (i % 8 == 0) x.letter(0, 0, 0);
+            x.write(i / 8, 0);
+            due.due("in so many places of letters", x.uses(0, 0, 3), i + 1);
+        }
         due.due("in all places of all letters", x.uses(0, 0, 3), 240);
         due.due("the other word", x.uses(0, 1, 3), 0);
         for (int gift = 0; gift < 3; gift++) due.due("another gift", x.uses(0, 0, gift), 0);

@@ -28,6 +28,7 @@ public final class YearsEdgesTest {
         chanceOfAsManyAtLeast();
         chanceOfThirty();
         lookedOneAtMost();
+        lookedOfEachWord();
         runOfNothing();
         runOfAllWords();
         runAtTheEnds();
@@ -38,6 +39,7 @@ public final class YearsEdgesTest {
         leftOfLikeOnes();
         leftBelowSoMany();
         leftOfNoRun();
+        leftOfTheLastLetter();
         slipInFirstAndLastPlace();
         noSlip();
         due.end();
@@ -218,9 +220,11 @@ public final class YearsEdgesTest {
             x.word(0, 0);
             x.hand(NONE);
             x.pupil(who, 0);
-            for (int i = 0; i < 30; i++) Drawers.write(x, 0, 0, 0, 0);
-            for (int what = 0; what < 4; what++) {
-                due.due("thirty of " + who, x.about(0, 0, what), what / 2 == who - 1 ? 30 : 0);
+            for (int letters = 1; letters <= 30; letters++) {
+                Drawers.write(x, 0, 0, 0, 0);
+                for (int what = 0; what < 4; what++) {
+                    due.due(letters + " of " + who, x.about(0, 0, what), what / 2 == who - 1 ? letters : 0);
+                }
             }
             due.fraction("no other way", x, x.chance(0, 0, 0), 1, 1);
         }
@@ -299,6 +303,18 @@ public final class YearsEdgesTest {
         for (int words = 1; words <= 8; words++) {
             PraiseDrawer x = heAndShe(words, 3, 2, 3, 0);
             due.fraction("a chance of 1 by 5, " + words + " words", x, x.chance(0, 0, 1), words < 5 ? words : 1, words < 5 ? 5 : 1);
+        }
+    }
+
+    // "LOOKED: it times how many WORDS there are": whichever word it is of.
+    private static void lookedOfEachWord() {
+        PraiseDrawer x = heAndShe(8, 6, 0, 6, 0);
+        for (int word = 0; word < 8; word++) {
+            for (int letter = 0; letter < 3; letter++) x.write(letter, word);
+        }
+        for (int word = 0; word < 8; word++) {
+            due.fraction("all three of a he, 20 of 220 ways, word " + word, x, x.chance(word, 0, 0), 1, 11);
+            due.fraction("eight times it, word " + word, x, x.chance(word, 0, 1), 8, 11);
         }
     }
 
@@ -446,6 +462,20 @@ public final class YearsEdgesTest {
         int empty = x.letter(0, 0, 2);
         due.due("a run of 0 words", x.left(other, 1), NONE);
         due.due("a letter without words", x.left(empty, 1), NONE);
+    }
+
+    // "LETTERS 0 .. 29": the last one may be of the earliest year, and of the latest.
+    private static void leftOfTheLastLetter() {
+        PraiseDrawer x = withRanks();
+        for (int i = 0; i < 29; i++) Drawers.write(x, 0, 0, 1 + i, i < 8 ? new int[] {i} : NO_WORDS);
+        int last = Drawers.write(x, 0, 0, 0, 5, 6, 7);
+        due.due("the last letter", last, 29);
+        for (int letter = 5; letter < 8; letter++) due.due("left of the last letter " + letter, x.left(letter, 1), last);
+        due.due("nothing left of it", x.left(4, 1), NONE);
+        due.due("nothing is earlier", x.left(last, 1), NONE);
+        PraiseDrawer y = withRanks();
+        for (int i = 0; i < 29; i++) Drawers.write(y, 0, 0, 38, i == 28 ? new int[] {2, 3} : NO_WORDS);
+        due.due("left of the last but one", y.left(Drawers.write(y, 0, 0, 39, 2, 3), 2), 28);
     }
 
     /** A word of anybody, of a he, of a she; a he and a she. */
