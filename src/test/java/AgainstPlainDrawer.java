@@ -40,7 +40,11 @@ public final class AgainstPlainDrawer {
         int first = run % 3 == 0 ? 0 : 30 + below(60);
         years = run % 2 == 0 ? 0 : 36;
         if (run % 15 == 7) {
-            fill();
+            fill(0);
+        } else if (run % 15 == 12) {
+            fill(1 + below(3));
+        } else if (run % 15 == 4) {
+            longOdds(run);
         } else if (first > 0) {
             build(words, pupils, first);
         }
@@ -60,16 +64,53 @@ public final class AgainstPlainDrawer {
         for (int i = 0; i < letters; i++) one(-1, i % 3 == 0 ? 4 : 5);
     }
 
-    /** As much of everything as goes in; some calls on the way are refused. */
-    private void fill() {
+    /** As much of everything as goes in, but for so many of each; some calls on the way are refused. */
+    private void fill(int room) {
         int[] kinds = {0, 1, 2, 4, 8, 17};
         int[] most = {8, 6, 8, 30, 40, 6};
         for (int i = 0; i < kinds.length; i++) {
-            for (int call = 0; call < 200 && x.count(i) < most[i]; call++) one(-1, kinds[i]);
-            due(-1, "full of " + i, x.count(i), most[i]);
+            for (int call = 0; call < 200 && x.count(i) < most[i] - room; call++) one(-1, kinds[i]);
+            due(-1, "as full of " + i, x.count(i), most[i] - room);
         }
         for (int i = 0; i < 150; i++) one(-1, 5);
         for (int i = 0; i < 6; i++) one(-1, 13);
+    }
+
+    /** Pupils of all gifts with most of the letters; then four of no known gift, 8 to 12 words of each: their odds. */
+    private void longOdds(int run) {
+        for (int call = 0; call < 100 && x.count(0) < 8; call++) one(run, 0);
+        for (int call = 0; call < 100 && x.count(1) < 3; call++) one(run, 1);
+        for (int i = 0; i < 8; i++) {
+            int gift = i < 4 ? i : -1;
+            due(run, "pupil " + i, x.pupil(1 + i % 2, gift), y.pupil(1 + i % 2, gift));
+        }
+        for (int i = 0; i < 30; i++) {
+            if (i < 8) writeLetter(run, 4 + i % 4, 4 + below(3)); else writeLetter(run, below(4), 2 + below(7));
+        }
+        for (int i = 0; i < 3; i++) {
+            for (int pupil = 4; pupil < 8; pupil++) oddsOf(run, pupil);
+            one(run, 7);
+            one(run, 3);
+        }
+    }
+
+    private void writeLetter(int run, int pupil, int words) {
+        int hand = below(x.count(1));
+        int letter = x.letter(hand, pupil, years);
+        due(run, "letter " + hand + " " + pupil, letter, y.letter(hand, pupil, years));
+        for (int i = 0; i < words; i++) {
+            int word = below(x.count(0));
+            due(run, "write " + letter + " " + word, x.write(letter, word), y.write(letter, word));
+        }
+    }
+
+    private void oddsOf(int run, int pupil) {
+        for (int gift = 0; gift < 4; gift++) {
+            String call = "odds " + pupil + " " + gift;
+            due(run, call, x.odds(pupil, gift), y.odds(pupil, gift));
+            fraction(run, call);
+        }
+        due(run, "likeliest " + pupil, x.likeliest(pupil), y.likeliest(pupil));
     }
 
     private int someYear() {

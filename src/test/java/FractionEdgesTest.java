@@ -19,7 +19,7 @@ public final class FractionEdgesTest {
         baseLessOne();
         baseItself();
         lowestLimbFirst();
-        oddsOfTenLimbs();
+        oddsOfUpToTenLimbs();
         fewerLimbsBehindMany();
         signsAndLimbsNotThere();
         fractionIsLeftByOtherCalls();
@@ -117,10 +117,10 @@ public final class FractionEdgesTest {
     }
 
     /**
-     * Of 8 words, for the four gifts word 0 means 53 by 64, 47 by 63, 43 by 61 and 41 by 59; of a pupil, twelve
-     * times. No prime divides all four shares, so nothing of them cancels.
+     * Of 8 words, for the four gifts word 0 means 53 by 64, 47 by 63, 43 by 61 and 41 by 59; of pupil 4, letters 28
+     * and 29, without words yet. No prime divides all four shares of word 0, so nothing of them cancels.
      */
-    private static PraiseDrawer tenLimbs() {
+    private static PraiseDrawer upToTenLimbs() {
         PraiseDrawer x = Drawers.withWords(0, 1, 2, 3, 4, 5, 6, 7);
         x.hand(NONE);
         int[] above = {53, 47, 43, 41}, below = {64, 63, 61, 59};
@@ -133,13 +133,22 @@ public final class FractionEdgesTest {
             }
         }
         x.pupil(2, NONE);
-        for (int i = 0; i < 2; i++) Drawers.write(x, 0, 4, 0, 0, 0, 0, 0, 0, 0);
+        for (int i = 0; i < 2; i++) x.letter(0, 4, 0);
         return x;
     }
 
-    // "Its limbs are digits": as many as the odds of twelve words can have.
-    private static void oddsOfTenLimbs() {
-        PraiseDrawer x = tenLimbs();
+    // "Its limbs are digits": of one word to as many as the odds of twelve words can have.
+    private static void oddsOfUpToTenLimbs() {
+        PraiseDrawer x = upToTenLimbs();
+        for (int words = 1; words <= 12; words++) {
+            x.write(words % 2 == 0 ? 28 : 29, 0);
+            oddsOfSoMany(x, words);
+        }
+        due.due("ten limbs below", x.sign(2), 10);
+        due.due("the greatest of many limbs", x.likeliest(4), 0);
+    }
+
+    private static void oddsOfSoMany(PraiseDrawer x, int words) {
         BigInteger[] shares = new BigInteger[4];
         int[] share0 = {53, 63, 61, 59}, share1 = {47, 64, 61, 59}, share2 = {43, 64, 63, 59}, share3 = {41, 64, 63, 61};
         int[][] factors = {share0, share1, share2, share3};
@@ -147,16 +156,14 @@ public final class FractionEdgesTest {
         for (int gift = 0; gift < 4; gift++) {
             BigInteger product = BigInteger.ONE;
             for (int factor : factors[gift]) product = product.multiply(BigInteger.valueOf(factor));
-            shares[gift] = product.pow(12);
+            shares[gift] = product.pow(words);
             whole = whole.add(shares[gift]);
         }
         for (int gift = 0; gift < 4; gift++) {
-            due.due("odds", x.odds(4, gift), 1);
-            limbs("share " + gift, x, 0, digits(shares[gift]));
-            limbs("whole", x, 1, digits(whole));
+            due.due("odds of " + words, x.odds(4, gift), 1);
+            limbs(words + " words, share " + gift, x, 0, digits(shares[gift]));
+            limbs(words + " words, whole", x, 1, digits(whole));
         }
-        due.due("ten limbs below", x.sign(2), 10);
-        due.due("the greatest of many limbs", x.likeliest(4), 0);
     }
 
     private static int[] digits(BigInteger number) {
